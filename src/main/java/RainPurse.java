@@ -228,7 +228,7 @@ public final class RainPurse {
       return error(BEYOND);
     }
     Text text = now.textOf(use);
-    int was = text.stands() ? 1 : 0;
+    int was = text.isTold() ? 1 : 0;
     text.clear();
     return was;
   }
@@ -727,7 +727,7 @@ public final class RainPurse {
     private final int[] stack = new int[TAPE_ROOM];
     private int size;
 
-    boolean stands() {
+    boolean isTold() {
       return size > 0;
     }
 
@@ -1011,7 +1011,7 @@ public final class RainPurse {
     }
 
     int cropOf(int field) {
-      if (!crop.stands()) {
+      if (!crop.isTold()) {
         return rain[field] * worth[field];
       }
       return held(crop.workOut(rain[field], worth[field], 0, day), MOST_CROP);
@@ -1039,8 +1039,10 @@ public final class RainPurse {
         case STORE_KIND:
           return byWorth + m;
         default:
-          int due = dues.stands() ? dues.workOut(itsRain, worth[field], itsSum, m) : itsRain / 10 - m;
-          return held(due, MOST_DUES);
+          if (!dues.isTold()) {
+            return itsRain / 10 - m;
+          }
+          return held(dues.workOut(itsRain, worth[field], itsSum, m), MOST_DUES);
       }
     }
 
