@@ -966,6 +966,7 @@ public final class RainPurse {
     private final Text dues = new Text();
     private final Text crop = new Text();
 
+    /** Whole rows come, so that behind the last FIELD all stays nought for a new one. */
     void copyFrom(State other) {
       System.arraycopy(other.worth, 0, worth, 0, MOST_FIELDS);
       System.arraycopy(other.rain, 0, rain, 0, MOST_FIELDS);
@@ -992,16 +993,9 @@ public final class RainPurse {
       return field >= 0 && field < size;
     }
 
-    /** Its rows are cleared, as a FIELD may have stood there ahead of a restore(). */
     int newField(int itsWorth) {
       int field = size;
       worth[field] = itsWorth;
-      rain[field] = 0;
-      sum[field] = 0;
-      pennies[field] = 0;
-      for (int w = 0; w < WEATHERS; w++) {
-        skies[w][field] = 0;
-      }
       size++;
       return field;
     }
