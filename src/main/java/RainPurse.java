@@ -1408,25 +1408,20 @@ public final class RainPurse {
 
   /** VOICES: a BODY is looked for from a KIND on upwards. */
   private static final class Voices {
+    /** BODIES that began are told of whatever voice() answers then, so PARTED leaves them here. */
     final Row trace = new Row(TRACE_ROOM);
     boolean parted;
-    /** What begins; it becomes THE TRACE only if nothing is PARTED, as an ERROR changes nothing. */
-    private final Row begun = new Row(TRACE_ROOM);
     private int own;
     private int k;
     private int m;
 
     int ask(int law, int km, int voice, int x) {
-      begun.clear();
+      trace.clear();
       parted = false;
       own = km / 10;
       k = law;
       m = km % 10;
-      int answer = speak(own, voice, x, 0);
-      if (!parted) {
-        trace.copyFrom(begun);
-      }
-      return answer;
+      return speak(own, voice, x, 0);
     }
 
     /** What is PARTED ends all: no BODY begins behind it. */
@@ -1436,7 +1431,7 @@ public final class RainPurse {
         return 0;
       }
       int body = BODIES[owner * VOICES + voice];
-      begun.add(body);
+      trace.add(body);
       int above = KIND_ABOVE[owner];
       int next = depth + 1;
       switch (body) {

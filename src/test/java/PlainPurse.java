@@ -697,14 +697,8 @@ final class PlainPurse {
   private int voice(int law, int voice, int x) {
     int km = needLaw(law);
     need(in(voice, 0, 3), 1);
-    List<Integer> before = trace;
     trace = new ArrayList<>();
-    try {
-      return new Speaker(km / 10, km % 10, law, trace).say(km / 10, voice, x);
-    } catch (Refused r) {
-      trace = before;
-      throw r;
-    }
+    return new Speaker(km / 10, km % 10, law, trace).say(km / 10, voice, x);
   }
 
   private int body(int i) {

@@ -905,16 +905,27 @@ public final class PromiseTest {
     spoken(x, 65, 2, 7, 8, 12, 71, 11, 70);
     spoken(x, 5, 0, FAR, DEEP, 10);
     spoken(x, 0, 3, DEEP, DEEP, 13);
+    partedVoices();
+  }
+
+  private static void partedVoices() {
     promise(28, "voice: PARTED");
+    RainPurse x = new RainPurse();
+    x.law(0);
+    x.law(5);
     spoken(x, 65, 1, 7, 13, 71, 11, 70);
-    x.become(1, 31);
-    due(x.voice(1, 3, 0), PARTED);
+    spoken(x, 1, 3, 0, PARTED, 13);
     due(x.told(6), 1);
+    spoken(x, 11, 3, 7, PARTED, 21, 13);
+    spoken(x, 31, 3, FAR, PARTED, 21, 13);
+    spoken(x, 65, 2, 7, 8, 12, 71, 11, 70);
+    due(x.told(6), 3);
     due(x.voice(0, 3, 5), PARTED);
+    traced(x, 13);
+    promise(29, "body: a voice() that is BEYOND begins no BODY");
     due(x.voice(1, 5, 5), BEYOND);
-    due(x.count(8), 3);
-    due(x.body(0), 71);
-    due(x.body(2), 70);
+    due(x.voice(2, 0, 5), BEYOND);
+    traced(x, 13);
   }
 
   /** LAW 1 as one of a KIND speaks, and THE TRACE is as told. */
@@ -922,13 +933,17 @@ public final class PromiseTest {
     x.become(1, km);
     due(x.voice(1, voice, of), want);
     promise(29, "body");
+    traced(x, trace);
+    promise(28, "voice");
+  }
+
+  private static void traced(RainPurse x, int... trace) {
     due(x.count(8), trace.length);
     for (int i = 0; i < trace.length; i++) {
       due(x.body(i), trace[i]);
     }
     due(x.body(trace.length), NONE);
     due(x.body(-1), NONE);
-    promise(28, "voice");
   }
 
   private static void sheets() {
