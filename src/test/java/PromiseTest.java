@@ -1,30 +1,7 @@
 /** Each promise by hand: ordinary inputs, the edges that the document names, wrong inputs. */
-public final class PromiseTest {
-  private static final int LOW = -1000000000;
-  private static final int BEYOND = LOW - 1;
-  private static final int NONE = LOW - 2;
-  private static final int STATE = LOW - 3;
-  private static final int FULL = LOW - 4;
-  private static final int KIND = LOW - 5;
-  private static final int PARTED = LOW - 6;
-  private static final long LONG_LOW = -1000000000000L;
-  private static final int FAR = Integer.MAX_VALUE;
-  private static final int DEEP = Integer.MIN_VALUE;
-
-  private static int wrong;
-  private static String about = "";
-
+public final class PromiseTest extends Bench {
   private static void promise(int number, String name) {
-    about = number + " " + name;
-  }
-
-  private static void due(long got, long want) {
-    if (got != want) {
-      wrong++;
-      StackTraceElement at = new Throwable().getStackTrace()[1];
-      System.out.println("promise " + about + ", line " + at.getLineNumber() + ": answered " + got
-          + ", due is " + want);
-    }
+    about("promise " + number + " " + name);
   }
 
   public static void main(String[] args) {
@@ -52,37 +29,7 @@ public final class PromiseTest {
     images();
     tellings();
     countsAndErrors();
-    System.out.println(wrong == 0 ? "PromiseTest: all answers are as due"
-        : "PromiseTest: " + wrong + " answers are not as due");
-    if (wrong != 0) {
-      System.exit(1);
-    }
-  }
-
-  /** FIELDS with such RAIN, and WORTH 1. */
-  private static RainPurse rained(int... rain) {
-    RainPurse x = new RainPurse();
-    for (int i = 0; i < rain.length; i++) {
-      x.field(1);
-      x.set(i, 1, rain[i]);
-    }
-    return x;
-  }
-
-  private static void feed(RainPurse x, String text) {
-    for (int i = 0; i < text.length(); i++) {
-      x.feed(text.charAt(i), 1);
-    }
-  }
-
-  private static int read(RainPurse x, int use, String text) {
-    feed(x, text);
-    return x.text(use);
-  }
-
-  private static int crop(RainPurse x, String text) {
-    int read = read(x, 1, text);
-    return read == 1 ? x.fieldIs(0, 6) : read;
+    end(PromiseTest.class);
   }
 
   private static void newObject() {
@@ -511,19 +458,6 @@ public final class PromiseTest {
     y = paying(0, 0, 0);
     due(y.settle(0), 0);
     due(y.settle(2), 0);
-  }
-
-  /** FIELDS that PAY such numbers (together nought), times how many there are. */
-  private static RainPurse paying(int... pays) {
-    RainPurse x = new RainPurse();
-    for (int i = 0; i < pays.length; i++) {
-      x.field(0);
-      x.set(i, 1, 50 + pays[i]);
-    }
-    read(x, 0, "r-50");
-    x.law(60);
-    x.force(0);
-    return x;
   }
 
   private static void nightAndTwo() {

@@ -5,7 +5,8 @@ import java.util.Random;
 /** Runs of calls drawn at random (always the same ones), each answered by PlainPurse, too. */
 public final class RandomRunsTest {
   private static final int RUNS = 400;
-  private static final int CALLS = 512;
+  /** No step of a run makes more calls than that. */
+  private static final int LONGEST_STEP = 40;
   private static final String SIGNS = "rwsmd0123456789!()|&<=>+-*/%";
   private static final String[] NAMES = {
     "field", "fieldIs", "set", "law", "lawIs", "as", "become", "force", "feed", "text", "untell",
@@ -15,7 +16,7 @@ public final class RandomRunsTest {
   };
 
   private final Random random;
-  private final RainPurse purse = new RainPurse();
+  private final Counted purse = new Counted();
   private final PlainPurse plain = new PlainPurse();
   private final List<String> calls = new ArrayList<>();
   private int dear;
@@ -35,7 +36,7 @@ public final class RandomRunsTest {
 
   private boolean passes(int run) {
     boolean alike = begin();
-    while (alike && calls.size() < CALLS) {
+    while (alike && calls.size() + LONGEST_STEP <= Counted.MOST_CALLS) {
       int kind = random.nextInt(20);
       if (kind == 0) {
         alike = feedText();
@@ -257,7 +258,7 @@ public final class RandomRunsTest {
 
   private boolean same(String name, long... a) {
     long want = plain.call(name, a);
-    long got = call(name, a);
+    long got = purse.call(name, a);
     boolean anyNumber = name.equals("fails");
     if (!anyNumber && want < PlainPurse.LOW) {
       want = want - PlainPurse.LOW - 1000000000L;
@@ -272,55 +273,5 @@ public final class RandomRunsTest {
       System.out.println(b + " is answered, " + want + " is due");
     }
     return got == want;
-  }
-
-  private long call(String name, long[] a) {
-    int p = a.length > 0 ? (int) a[0] : 0;
-    int q = a.length > 1 ? (int) a[1] : 0;
-    int r = a.length > 2 ? (int) a[2] : 0;
-    int s = a.length > 3 ? (int) a[3] : 0;
-    int t = a.length > 4 ? (int) a[4] : 0;
-    switch (name) {
-      case "field": return purse.field(p);
-      case "fieldIs": return purse.fieldIs(p, q);
-      case "set": return purse.set(p, q, r);
-      case "law": return purse.law(p);
-      case "lawIs": return purse.lawIs(p, q);
-      case "as": return purse.as(p, q);
-      case "become": return purse.become(p, q);
-      case "force": return purse.force(p);
-      case "feed": return purse.feed(a[0], q);
-      case "text": return purse.text(p);
-      case "untell": return purse.untell(p);
-      case "evening": return purse.evening();
-      case "settle": return purse.settle(p);
-      case "night": return purse.night(p, q);
-      case "two": return purse.two();
-      case "gauge": return purse.gauge(p, q);
-      case "wrong": return purse.wrong(p);
-      case "weather": return purse.weather(p, q);
-      case "rain": return purse.rain(p, q, r);
-      case "days": return purse.days(p);
-      case "seed": return purse.seed(p);
-      case "mean": return purse.mean(p, q);
-      case "evenest": return purse.evenest();
-      case "fails": return purse.fails(p, q, r, s);
-      case "stands": return purse.stands(p, q, r);
-      case "book": return purse.book(p, q, r);
-      case "voice": return purse.voice(p, q, r);
-      case "body": return purse.body(p);
-      case "sheet": return purse.sheet(p, q, r);
-      case "put": return purse.put(p, q, r);
-      case "move": return purse.move(p, q, r, s, t);
-      case "rains": return purse.rains(p);
-      case "judge": return purse.judge(p);
-      case "play": return purse.play(p);
-      case "image": return purse.image();
-      case "restore": return purse.restore();
-      case "tell": return purse.tell(p);
-      case "check": return purse.check();
-      case "count": return purse.count(p);
-      default: return purse.told(p);
-    }
   }
 }
