@@ -152,9 +152,14 @@ abstract class Bench {
   /** Days go by until a DAY; WEATHER 3 comes always. */
   static void goTo(RainPurse x, int day) {
     x.weather(3, 16);
-    while (x.count(2) < day) {
-      x.days(Math.min(60, day - x.count(2)));
+    int left = day - x.count(2);
+    for (int i = 0; i < left / 60; i++) {
+      x.days(60);
     }
+    if (left % 60 > 0) {
+      x.days(left % 60);
+    }
+    due(x.count(2), day);
   }
 
   static void feed(RainPurse x, String text) {

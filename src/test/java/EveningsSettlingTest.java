@@ -167,6 +167,24 @@ public final class EveningsSettlingTest extends Bench {
     settles(paying(8, 7, -7, -8), 2, 2, 6);
   }
 
+  private static void promise14AskedAgain() {
+    RainPurse x = under(0, 0, 9, 0, 0, 0, 0, 0, 0);
+    settles(x, 7, 1, 255);
+    x.become(0, 60);
+    read(x, 0, "r-9");
+    int[] rain = {9, 9, 11, 7, 9, 10, 9, 8};
+    for (int i = 0; i < 8; i++) {
+      x.set(i, 1, rain[i]);
+    }
+    settles(x, 2, 2, 12);
+    x.force(-1);
+    settles(x, 0, 0, 0);
+    x.force(0);
+    x.set(2, 1, 9);
+    x.set(3, 1, 9);
+    settles(x, 1, 1, 160);
+  }
+
   private static void promise14WhatIs0To2() {
     RainPurse x = paying(3, -3);
     int[] none = {-1, 3, DEEP, FAR};

@@ -1,5 +1,13 @@
+import java.math.BigInteger;
+
 /** The boundaries that promises 17 to 27 name, with what of Term 3 they stand on. */
 public final class GaugesWeatherTest extends Bench {
+  /** RAIN by each of four WEATHERS, and in how many days they come. */
+  private static final int[] RAIN = {2, 1, 3, 7};
+  private static final int[] COMES = {1, 2, 4, 9};
+  /** No row of six days costs more: 7 on each, and what falls and fell in the week. */
+  private static final int MOST = 219;
+
   public static void main(String[] args) {
     runAll(GaugesWeatherTest.class, 17, 27);
   }
@@ -63,6 +71,43 @@ public final class GaugesWeatherTest extends Bench {
     wrongs(rained(0, 12, 25), 1, 1, 0, 5);
     wrongs(rained(0, 14, 24, 34, 44, 54, 64, 74), 0, 0, 0, 0);
     wrongs(rained(0, 14, 24, 34, 44, 54, 64, 75), 1, 1, 0, 129);
+  }
+
+  private static void promise18EachTwoOfEight() {
+    for (int i = 0; i < 8; i++) {
+      for (int j = i + 1; j < 8; j++) {
+        int most = 10 * (j - i) + 4;
+        int[] rain = new int[8];
+        for (int k = 0; k < 8; k++) {
+          rain[k] = k <= i ? 5 : k >= j ? 5 + most : 5 + 10 * (k - i) + 2;
+        }
+        wrongs(rained(rain), 0, 0, 0, 0);
+        RainPurse x = gauged(2, 10, 50, 50, 50, 50, 50, 50, 50, 50);
+        x.set(i, 1, 50 - (most + 1) / 2);
+        x.set(j, 1, 50 + (most + 2) / 2);
+        need(x.wrong(0) > 0, i + " and " + j + " can't both be right");
+      }
+    }
+    for (int i = 0; i < 7; i++) {
+      RainPurse x = rained(50, 50, 50, 50, 50, 50, 50, 50);
+      x.set(i, 1, 43);
+      x.set(i + 1, 1, 57);
+      wrongs(x, 0, 0, 0, 0);
+      x.set(i + 1, 1, 58);
+      wrongs(x, 1, 1 << i, 0, 3 << i);
+    }
+  }
+
+  private static void promise18AskedAgain() {
+    RainPurse x = rained(0, 99, 0, 99, 0, 99, 0, 99);
+    wrongs(x, 4, 85, 0, 255);
+    x.gauge(0, 99);
+    wrongs(x, 0, 0, 0, 0);
+    x.gauge(0, 2);
+    for (int i = 0; i < 7; i++) {
+      x.set(i, 1, 0);
+    }
+    wrongs(x, 1, 128, 128, 128);
   }
 
   private static void promise18OffAt0And99() {
@@ -481,6 +526,27 @@ public final class GaugesWeatherTest extends Bench {
     due(x.evenest(), 1);
   }
 
+  /** By LAW 0 they PAY 8, -4, -4; by LAW 1 first 0, -12, 12, then 0, -6, 6. */
+  private static void promise24EachFieldCounts() {
+    for (int i = 0; i < 3; i++) {
+      RainPurse x = rained(0, 0, 0);
+      read(x, 0, "w*m");
+      x.law(61);
+      x.law(15);
+      comes(x, 16);
+      for (int j = 0; j < 3; j++) {
+        x.set(j, 0, j == i ? 4 : 0);
+      }
+      x.rain(0, i, 10);
+      x.rain(0, (i + 1) % 3, 2);
+      x.rain(0, (i + 2) % 3, 18);
+      due(x.evenest(), 0);
+      x.rain(0, (i + 1) % 3, 6);
+      x.rain(0, (i + 2) % 3, 14);
+      due(x.evenest(), 1);
+    }
+  }
+
   private static void promise24TheLargestSquares() {
     RainPurse x = farApart(8);
     comes(x, 16);
@@ -603,6 +669,107 @@ public final class GaugesWeatherTest extends Bench {
     }
   }
 
+  /** FIELD 0 owes its RAIN and its SUM, and PAYS what it owes, as FIELD 1 owes nothing. */
+  private static RainPurse fourWeathers(int day) {
+    RainPurse x = under(61, 0, 0);
+    x.set(1, 0, 0);
+    read(x, 0, "(s+r)*w");
+    comes(x, COMES);
+    for (int w = 0; w < 4; w++) {
+      x.rain(w, 0, RAIN[w]);
+    }
+    for (int i = 0; i < day; i++) {
+      x.set(0, 1, 2);
+      x.evening();
+    }
+    return x;
+  }
+
+  /** What n days take from FIELD 0, each row of WEATHERS by itself: rows, and their weights. */
+  private static void follow(int day, int sum, int n, int taken, long weight, long[] rows,
+      long[] weights) {
+    if (n == 0) {
+      rows[taken]++;
+      weights[taken] += weight;
+      return;
+    }
+    for (int w = 0; w < 4; w++) {
+      int then = (day + 1) % 7 == 0 ? 0 : sum + RAIN[w];
+      follow(day + 1, then, n - 1, taken + sum + RAIN[w], weight * COMES[w], rows, weights);
+    }
+  }
+
+  private static void promise25RowsOfFourWeathers() {
+    for (int day = 0; day < 7; day++) {
+      for (int n = 1; n <= 6; n++) {
+        long[] weights = new long[MOST + 1];
+        follow(day, 2 * day, n, 0, 1, new long[MOST + 1], weights);
+        long all = 1L << 4 * n;
+        long failing = all;
+        RainPurse x = fourWeathers(day);
+        for (int b = 0; b <= MOST; b++) {
+          failing -= weights[b];
+          long divisor = BigInteger.valueOf(failing).gcd(BigInteger.valueOf(all)).longValue();
+          fails(x, 0, b, n, failing / divisor, all / divisor);
+        }
+      }
+    }
+  }
+
+  /** Only the last of 4096 rows fails, or only the first stands. */
+  private static void promise25TheFirstAndTheLastRow() {
+    RainPurse x = under(0, 0, 0);
+    comes(x, 13, 1, 1, 1);
+    x.rain(3, 0, 9);
+    fails(x, 0, 5, 6, 1, 16777216);
+    x.rain(1, 0, 9);
+    x.rain(2, 0, 9);
+    fails(x, 0, 0, 6, 16777216 - 4826809, 16777216);
+    x.rain(0, 0, 9);
+    x.rain(3, 0, 0);
+    fails(x, 0, 0, 6, 16777215, 16777216);
+  }
+
+  private static void promise25AskedAgain() {
+    RainPurse x = under(0, 0, 0);
+    comes(x, 4, 4, 4, 4);
+    for (int w = 0; w < 4; w++) {
+      x.rain(w, 0, 9);
+    }
+    fails(x, 0, 5, 6, 1, 1);
+    fails(x, 0, 5, 5, 0, 1);
+    fails(x, 1, 0, 6, 0, 1);
+    x.rain(0, 0, 0);
+    fails(x, 0, 5, 6, 729, 4096);
+    x.become(0, 19);
+    fails(x, 0, 47, 6, 729, 4096);
+    x.force(-1);
+    fails(x, 0, 0, 6, 0, 1);
+    due(x.book(0, 6, 0), 4096);
+    x.force(0);
+    due(x.book(0, 6, 0), 1);
+    due(x.stands(0, 6, 1), 48);
+  }
+
+  /** SUM counts, whatever m is; and wherever a TEXT names it. */
+  private static void promise25LawsThatAskSums() {
+    for (int m = 0; m < 10; m++) {
+      RainPurse x = under(40 + m, 0, 0);
+      comes(x, 16);
+      x.rain(0, 0, 60);
+      due(x.stands(0, 3, 1), 3 * 6 * m + 6 + 12);
+      x.become(0, 60 + m);
+      read(x, 0, "s");
+      due(x.stands(0, 3, 1), 60 + 120);
+      read(x, 0, "s/10");
+      due(x.stands(0, 3, 1), 6 + 12);
+      read(x, 0, "m*0+s");
+      due(x.stands(0, 3, 1), 60 + 120);
+      read(x, 0, "r");
+      due(x.stands(0, 3, 1), 180);
+    }
+  }
+
   private static void promise25PartIs0Or1() {
     RainPurse x = under(0, 0);
     comes(x, 16);
@@ -665,6 +832,25 @@ public final class GaugesWeatherTest extends Bench {
     for (int n = 1; n <= 6; n++) {
       due(x.stands(0, n, 50), n);
       due(x.stands(1, n, 50), 0);
+    }
+  }
+
+  private static void promise26RowsOfFourWeathers() {
+    for (int day = 0; day < 7; day++) {
+      for (int n = 1; n <= 6; n++) {
+        long[] weights = new long[MOST + 1];
+        follow(day, 2 * day, n, 0, 1, new long[MOST + 1], weights);
+        RainPurse x = fourWeathers(day);
+        for (int k = 1; k <= 99; k++) {
+          int b = 0;
+          long failing = (1L << 4 * n) - weights[0];
+          while (failing * 100 > k * (1L << 4 * n)) {
+            b++;
+            failing -= weights[b];
+          }
+          due(x.stands(0, n, k), b);
+        }
+      }
     }
   }
 
@@ -757,6 +943,20 @@ public final class GaugesWeatherTest extends Bench {
     due(x.book(1, 0, 0), BEYOND);
     due(x.book(-1, 0, 0), BEYOND);
     due(new RainPurse().book(0, 0, 0), BEYOND);
+  }
+
+  private static void promise27RowsOfFourWeathersByThemselves() {
+    for (int day = 0; day < 7; day++) {
+      for (int n = 0; n <= 6; n++) {
+        long[] rows = new long[MOST + 1];
+        follow(day, 2 * day, n, 0, 1, rows, new long[MOST + 1]);
+        RainPurse x = fourWeathers(day);
+        int pennies = x.fieldIs(0, 3);
+        for (int taken = 0; taken <= MOST; taken++) {
+          due(x.book(0, n, pennies - taken), rows[taken]);
+        }
+      }
+    }
   }
 
   private static void promise27AnyPennies() {

@@ -352,7 +352,7 @@ public final class ImagesToldTest extends Bench {
       case 2: return x.two();
       case 3: return x.sheet(0, 8, -1);
       case 4:
-        while (x.count(7) < 24) {
+        for (int i = x.count(7); i < 24; i++) {
           x.tell(0);
         }
         return x.tell(0);

@@ -202,6 +202,8 @@ public final class TextsTest extends Bench {
     RainPurse x = rained(7);
     String ones = "1+1+1+1+1+1+1+1+1+1+1+1+1+1+1+1+1+1+1+1+1+1+1+1+1+1+1+1+1";
     due(crop(x, "10+" + ones), 39);
+    due(crop(x, "!0" + "+1".repeat(29)), 30);
+    due(crop(x, "!0" + "-1".repeat(29)), -28);
     due(read(x, CROP, "1+" + ones + ")"), -10 - 59);
     due(read(x, CROP, "1+" + ones + "+"), -10 - 60);
     due(crop(x, "1+" + ones), 30);
