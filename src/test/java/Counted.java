@@ -1,4 +1,4 @@
-/** An object whose calls are told by their names, and counted, as nothing is due behind the 512th. */
+/** An object whose calls are told by name, and counted: nothing is due behind the 512th. */
 final class Counted {
   static final int MOST_CALLS = 512;
 

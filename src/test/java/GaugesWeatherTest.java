@@ -338,7 +338,7 @@ public final class GaugesWeatherTest extends Bench {
     return w;
   }
 
-  /** A z from which a draw has such a rest, made through an int below 0 (for rests that are odd). */
+  /** A z from which a draw has such a rest, through an int below 0 for rests that are odd. */
   private static int seedOf(int rest) {
     for (int v = 0; v < 100000; v++) {
       int z = v * 1103515245 + 12345;
@@ -605,7 +605,7 @@ public final class GaugesWeatherTest extends Bench {
     fails(x, 1, 0, 6, 0, 1);
   }
 
-  /** Who was below nought behind a day has failed, though there are PENNIES again behind the last. */
+  /** Who was below nought behind a day has failed, whatever there is behind the last. */
   private static void promise25BehindOneOfTheDays() {
     RainPurse x = under(19, 0, 0);
     comes(x, 8, 8);

@@ -586,7 +586,7 @@ public final class VoicesSheetsTest extends Bench {
     judged(under(0, 9, 0), 100);
   }
 
-  /** Each of the first four PAYS 4, each of the others is paid it; 24 numbers are eight PAYMENTS. */
+  /** Each of the first four PAYS 4, each other one is paid it; 24 numbers are eight PAYMENTS. */
   private static void promise34EightPayments() {
     RainPurse x = under(0, 9, 9, 9, 9, 0, 0, 0, 0);
     int[] eight = {0, 4, 2, 0, 5, 2, 1, 5, 2, 1, 6, 2, 2, 6, 2, 2, 7, 2, 3, 7, 2, 3, 4, 2};

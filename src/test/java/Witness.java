@@ -222,7 +222,7 @@ final class Witness {
     }
   }
 
-  /** How many numbers of which bits, and the numbers, as RAIN of all FIELDS; 0 .. 99 can be seen. */
+  /** How many numbers of which bits, and the numbers (0 .. 99), as RAIN of all FIELDS. */
   private static void seeSheets(Counted x, List<Long> seen) {
     long fields = x.call("count", 0);
     for (int sheet = 0; sheet < 4; sheet++) {
