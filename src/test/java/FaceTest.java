@@ -15,6 +15,7 @@ import java.util.regex.Pattern;
 public final class FaceTest {
   private static final Path SOURCE = Path.of("src/main/java/RainPurse.java");
   private static final Path DOC = Path.of("../shared/DOC.md");
+  private static final int MOST_LINES = 60;
   private static int wrong;
 
   public static void main(String[] args) throws IOException {
@@ -31,9 +32,11 @@ public final class FaceTest {
     }
     need(shown.equals(asked), "shown: " + shown + ", asked: " + asked);
     membersArePrivate(names);
-    need(Modifier.isFinal(RainPurse.class.getModifiers()), "the class is final");
-    need(RainPurse.class.getConstructors().length == 1, "one public constructor");
+    classIsAsAsked();
     sourceKeepsToTheLanguage();
+    sourceHasTheFace();
+    libraryIsTheListed();
+    methodsAreShort();
     if (wrong != 0) {
       System.exit(1);
     }
@@ -64,6 +67,16 @@ public final class FaceTest {
       types.add(c.getSimpleName());
     }
     return m.getReturnType().getSimpleName() + " " + m.getName() + "(" + String.join(", ", types) + ")";
+  }
+
+  private static void classIsAsAsked() {
+    Class<?> c = RainPurse.class;
+    need(Modifier.isPublic(c.getModifiers()), "the class is not public");
+    need(Modifier.isFinal(c.getModifiers()), "the class is not final");
+    need(c.getSuperclass() == Object.class, "the class is under another one");
+    need(c.getInterfaces().length == 0, "the class has interfaces");
+    Constructor<?>[] made = c.getConstructors();
+    need(made.length == 1 && made[0].getParameterCount() == 0, "one constructor, without parameters");
   }
 
   private static void membersArePrivate(TreeSet<String> publicNames) {
@@ -101,9 +114,68 @@ public final class FaceTest {
     }
   }
 
+  /** Lines stay where they are. */
+  private static String codeWithoutComments() throws IOException {
+    String source = Files.readString(SOURCE);
+    StringBuilder code = new StringBuilder();
+    for (String part : source.split("(?=/\\*)")) {
+      int end = part.startsWith("/*") ? part.indexOf("*/") + 2 : 0;
+      code.append(part.substring(0, end).replaceAll("[^\n]", "")).append(part.substring(end));
+    }
+    return code.toString().replaceAll("//[^\n]*", "");
+  }
+
+  /** Each line of the document's face, its parameters' names and its order, too. */
+  private static void sourceHasTheFace() throws IOException {
+    String doc = Files.readString(DOC);
+    String face = doc.substring(doc.indexOf("## The public face"), doc.indexOf("## Terms"));
+    String code = codeWithoutComments();
+    int from = 0;
+    for (String line : face.split("\n")) {
+      String asked = line.trim();
+      if (asked.startsWith("public ") && asked.endsWith(");")) {
+        int at = code.indexOf(asked.replace(");", ") {"), from);
+        need(at >= 0, asked + " is missing, or not in its place");
+        from = Math.max(from, at);
+      }
+    }
+  }
+
+  private static void libraryIsTheListed() throws IOException {
+    Matcher used = Pattern.compile("\\b(Math|Integer|Long|System|Arrays|String|List)\\.(\\w+)")
+        .matcher(codeWithoutComments());
+    List<String> listed = List.of("Math.max", "Math.min", "Math.abs", "Integer.bitCount",
+        "System.arraycopy");
+    while (used.find()) {
+      need(listed.contains(used.group()), used.group() + " is used");
+    }
+  }
+
+  /** A method is what stands between its first line and the brace that is as deep as that. */
+  private static void methodsAreShort() throws IOException {
+    int begun = 0;
+    int methods = 0;
+    String end = null;
+    Pattern first = Pattern.compile("( +)[\\w<>\\[\\] ]+\\([^;=]*\\) \\{");
+    int number = 0;
+    for (String line : codeWithoutComments().split("\n")) {
+      number++;
+      Matcher m = first.matcher(line);
+      if (end == null && m.matches()) {
+        end = m.group(1) + "}";
+        begun = number;
+      } else if (line.equals(end)) {
+        need(number - begun <= MOST_LINES, "the method in line " + begun + " is long");
+        methods++;
+        end = null;
+      }
+    }
+    need(methods > 100, "only " + methods + " methods were looked at");
+  }
+
   private static void sourceKeepsToTheLanguage() throws IOException {
     String source = Files.readString(SOURCE);
-    String code = source.replaceAll("(?s)/\\*.*?\\*/", "").replaceAll("//[^\n]*", "");
+    String code = codeWithoutComments();
     String[] banned = {
       "\\bthrow\\b", "\\btry\\b", "\\bcatch\\b", "\\bsynchronized\\b", "\\bassert\\b", "\\bimport\\b",
       "\\bpackage\\b", "->", "::", "\\bvar\\b", "\\w+Exact\\b", "\\bstatic\\s*\\{", "\\bprotected\\b",
